@@ -1030,14 +1030,13 @@ public final class TradeTests {
             return MILES - 1;
         }
 
+        // The miles are below the least, so only a greater digit helps: a 0 ahead never comes up.
         private static boolean isTyped(int miles, int least, int most) {
             for (int unit = 1; unit < MILES && (unit == 1 || unit <= miles); unit *= 10) {
-                int upToHere = miles / unit;
-                int digit = upToHere % 10;
-                boolean isLeading = unit > 1 && upToHere < 10;
-                for (int other = isLeading ? 1 : 0; other < 10; other++) {
-                    int number = miles + (other - digit) * unit;
-                    if (other != digit && number >= least && number <= most) {
+                int number = miles;
+                for (int digit = miles / unit % 10 + 1; digit < 10; digit++) {
+                    number += unit;
+                    if (number >= least && number <= most) {
                         return true;
                     }
                 }
@@ -1178,7 +1177,7 @@ public final class TradeTests {
         private final Signals signals;
         private final Secrets secrets;
         private final int[] worths = new int[MOST_SECRETS * MOST_GARAGES];
-        /** By car and set of taken garages: the most worth of that car and those behind it. */
+        /** By car and set of taken garages: the most worth of that car and those behind it (0 behind all). */
         private final int[] best = new int[(MOST_SECRETS + 1) * SETS];
         /** Of the garage surveyed last: its risk, and the known faults that were sent there. */
         private int risk;
@@ -1226,9 +1225,6 @@ public final class TradeTests {
         }
 
         void fillBest() {
-            for (int taken = 0; taken < SETS; taken++) {
-                best[secrets.count * SETS + taken] = 0;
-            }
             for (int car = secrets.count - 1; car >= 0; car--) {
                 for (int taken = 0; taken < SETS; taken++) {
                     best[car * SETS + taken] = mostFrom(car, taken);

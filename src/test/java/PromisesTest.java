@@ -137,11 +137,15 @@ public final class PromisesTest {
     }
 
     private void promise6() {
+        open(1);
+        due(0, x.move(0, 0, 5), "a first move");
+        due(BEYOND, x.move(0, 0, 4), "a day ahead of the first move");
         open(3);
         due(0, x.move(0, 1, 0), "a move on day 0 tells where it was at first");
         due(0, x.move(0, 2, 0), "a second move on day 0 too");
         due(2, x.move(0, 0, 9), "a later move");
         due(2, x.move(0, 1, 9), "a second one of that day");
+        due(1, x.move(0, 1, 10), "a move on the next day");
         due(BEYOND, x.move(0, 2, 8), "a move ahead of the latest one");
         due(1, x.move(1, 2, 8), "another tester's latest one does not matter");
         due(BEYOND, x.move(3, 0, 10), "tester 3");
@@ -150,7 +154,7 @@ public final class PromisesTest {
         due(BEYOND, x.move(0, -1, 10), "garage -1");
         due(BEYOND, x.move(0, 0, 10000), "day 10000");
         due(BEYOND, x.move(2, 0, -1), "day -1");
-        for (int i = 5; i < 30; i++) {
+        for (int i = 6; i < 30; i++) {
             due(2, x.move(2, 2, i), "move " + i);
         }
         due(FULL, x.move(1, 0, 9999), "move 30");
@@ -177,6 +181,10 @@ public final class PromisesTest {
     }
 
     private void promise8() {
+        open(1).vehicles(1);
+        due(BEYOND, x.test(0, -10000, 2000, 0, 0), "minute -1 of day 0");
+        due(0, x.test(0, 1, 1000, 0, 0), "a first test");
+        due(BEYOND, x.test(0, 0, 1000, 0, 0), "ahead of the first test");
         open(1);
         x.vehicle(1, 0, 5);
         x.vehicle(3, 0, 0);
@@ -189,13 +197,15 @@ public final class PromisesTest {
         for (int[] a : bad) {
             due(BEYOND, x.test(a[0], a[1], a[2], a[3], a[4]), java.util.Arrays.toString(a));
         }
-        due(0, x.test(0, 5, 1000, 999999, 999999), "on the day it was built");
-        due(1, x.test(100, 12000005, 240511, 0, 0), "up to the end of the day");
+        due(0, x.test(100, 0, 1000, 0, 0), "on the day it was built, ahead of another's");
+        due(1, x.test(0, 5, 1000, 999999, 999999), "on the day it was built");
+        due(2, x.test(100, 12000005, 240511, 0, 0), "up to the end of the day");
         due(BEYOND, x.test(100, 4, 1000, 0, 0), "ahead of the latest test, of another vehicle");
-        due(2, x.test(0, 14390005, 1000, 0, 0), "the last minute of a day");
-        for (int i = 3; i < 80; i++) {
-            due(i, x.test(0, 9999, 1000, i, i), "test " + i);
+        due(3, x.test(0, 14390006, 1000, 0, 0), "the last minute of a day");
+        for (int i = 4; i < 80; i++) {
+            due(i, x.test(0, 9920 + i, 20000, i, i), "test " + i);
         }
+        due(0, x.signs(79), "signs of the last one");
         due(FULL, x.test(0, 9999, 1000, 0, 0), "test 80");
         due(BEYOND, x.test(0, 9998, 1000, 0, 0), "beyond comes ahead of full");
     }
@@ -275,10 +285,14 @@ public final class PromisesTest {
         due(3, x.says(20, 0), "the text told last, though another is from a later day");
         due(100, x.says(20, 1), "no row d");
         due(0, x.says(20, 10), "no row f");
-        text(30, "b9;x");
-        due(3, x.says(30, 0), "a text with a fault leaves nothing");
-        text(30, "d9;");
+        text(30, "b9;d8;f5v;f6r;x");
+        due(3, x.says(30, 0), "a text with a fault is none");
+        text(30, "");
         due(0, x.says(30, 0), "no row b");
+        due(100, x.says(30, 1), "no row d, though there was one in a text with a fault");
+        for (int kind = 0; kind < 4; kind++) {
+            due(0, x.says(30, 10 + kind), "no row f, though there were some in a text with a fault");
+        }
         for (int what : new int[] {-1, 2, 9, 14, Integer.MIN_VALUE, Integer.MAX_VALUE}) {
             due(BEYOND, x.says(20, what), "says what " + what);
             due(BEYOND, x.says(9, what), "beyond comes ahead of none");
@@ -359,6 +373,20 @@ public final class PromisesTest {
         due(2, x.move(2, 0, 7), "the tester of garage 2 moves");
         rates(0, 8, 8, 4500, 1750000, 3500, 1, 2);
         rates(2, 0, 0, 0, 0, 0, 0, 1);
+        open(3).vehicles(1);
+        plain(0, 2, 0, PASSED);
+        for (int i = 0; i < 5; i++) {
+            plain(0, 1, 0, 0);
+        }
+        // 1 of 6 passed: a share of 166; 695556 is above 138444 times 5, but not times (4 and 2).
+        rates(2, 1, 1, 166, 138444, 834, 0, 1);
+        plain(0, 1, 0, 0);
+        plain(0, 1, 0, 0);
+        // 1 of 8 passed: a share of 125; 765625 is above 109375 times (4 and 2), and not times 7.
+        rates(2, 1, 1, 125, 109375, 875, 1, 1);
+        plain(0, 0, 0, 0);
+        // A share of 111; 790321 is above 98679 times 7, and garage 0 is looked at by its only test.
+        rates(2, 1, 1, 111, 98679, 889, 1, 1);
         due(BEYOND, x.rate(3, 0), "rate of garage 3");
         due(BEYOND, x.rate(-1, 0), "rate of garage -1");
         due(BEYOND, x.rate(0, 7), "rate 7");
@@ -377,6 +405,11 @@ public final class PromisesTest {
         plain(0, 0, 9999, PASSED);
         due(666, x.share(3, 2), "a share is cut");
         due(NONE, x.share(0, 1), "a cell without tests");
+        x.vehicle(1, 0, 9999);
+        plain(1, 0, 9999, 0);
+        due(0, x.share(0, 0), "a share of 0");
+        plain(1, 0, 9999, PASSED);
+        due(500, x.share(0, 0), "a share that was asked ahead of it");
         int[][] bad = {{-1, 0}, {4, 0}, {0, -1}, {0, 4}};
         for (int[] a : bad) {
             due(BEYOND, x.share(a[0], a[1]), "share " + a[0] + " " + a[1]);
@@ -443,6 +476,16 @@ public final class PromisesTest {
 
     private void promise19() {
         due(0, fallOf(5, 5), "the same miles");
+        due(0, fallOf(0, 0), "no miles");
+        due(0, x.falls(0), "the first one, of no miles");
+        open(1).vehicles(1);
+        for (int miles : new int[] {50, 40, 50, 49, 48, 40}) {
+            x.test(0, 0, 20256, miles, 0);
+        }
+        due(1, x.falls(1), "one right behind the other: 40 becomes 50");
+        due(2, x.falls(3), "one right behind the other: 59 is too much");
+        due(2, x.falls(4), "one right behind the other: 49 is too much");
+        due(1, x.falls(5), "the last: 40 becomes 48");
         due(1, fallOf(51234, 41234), "the first digit");
         due(2, fallOf(60000, 1234), "a digit fewer");
         due(1, fallOf(51234, 51134, 51300), "a digit within the one behind");
@@ -575,6 +618,20 @@ public final class PromisesTest {
         x.rule(2, 2);
         due(1, x.banned(0, 100), "points at the limit");
         due(0, x.banned(0, 99), "the day ahead");
+        open(1).vehicles(1);
+        timed(0, 0, 100, 0, 1);
+        x.rule(2, 2);
+        x.rule(0, 1);
+        due(1, x.banned(0, 110), "by the first test alone");
+        x = new TradeTests();
+        vehicles(1).x.garage(100, 200);
+        x.tester(0);
+        x.tester(0);
+        timed(0, 0, 100, 0, 30);
+        timed(0, 0, 101, 0, 30);
+        x.rule(2, 1);
+        x.rule(0, 1);
+        due(1, x.banned(0, 110), "by a single point");
         due(BEYOND, x.banned(2, 0), "tester 2");
         due(BEYOND, x.banned(-1, 0), "tester -1");
         for (int day : NO_DAYS) {
@@ -613,6 +670,9 @@ public final class PromisesTest {
         due(BEYOND, x.visit(2, 0), "beyond comes ahead of state");
         due(0b111, x.visit(0, 2), "a car may be sent often");
         due(3, x.count(6), "visits");
+        plain(0, 0, 10, 0);
+        due(0b1, x.visit(1, 3), "the faults of car 1");
+        due(10, x.points(3), "and its points");
         open(1).vehicles(1);
         x.secret(255);
         due(0, x.visit(0, plain(0, 0, 9, 0)), "nothing is missed without a text");
@@ -722,6 +782,10 @@ public final class PromisesTest {
         due(810, x.error(), "weights are cut");
         x.draw(2, 100, 1);
         due(821, x.error(), "1528000 by 1861");
+        open(1).vehicles(1);
+        x.draw(plain(0, 0, 0, 0), 73, 1);
+        x.draw(plain(0, 0, 0, 0), 100, 0);
+        due(576, x.error(), "136000 by 236");
         open(1).vehicles(1);
         for (int i = 0; i < 80; i++) {
             x.draw(plain(0, 0, 0, 0), 1, 1);
@@ -850,6 +914,49 @@ public final class PromisesTest {
         due(6, x.found(1), "and this one too");
     }
 
+    /** Nothing is left free, and every call still answers. */
+    private void fullObject() {
+        open(6).vehicles(1, 2, 3, 0);
+        x.tester(0);
+        x.tester(0);
+        for (int i = 4; i < 24; i++) {
+            x.vehicle(1, 3, 0);
+        }
+        for (int i = 0; i < 30; i++) {
+            x.move(7, i % 6, i);
+        }
+        for (int i = 0; i < 6; i++) {
+            text(0, "f0v;f1v;f2v;f3v;f4v;f5v;f6v;f7v;b99;d00;f0v;f1v;f2v;f3v;f4v");
+            due(i + 1, text(0, "f0v;f1v;f2v;f3v;f4v;f5v;f6v;f7v;b99;d00;f0v;f1v;f2v;f3v;f4v;"), "a full text");
+            x.secret(255);
+        }
+        for (int i = 0; i < 80; i++) {
+            x.test(2307, 9999, 1256, 80 - i, 0);
+            x.visit(5, i);
+            x.draw(i, 1, i % 2);
+        }
+        due(0, x.alike(79), "alike");
+        due(2 + 4 + 16, x.signs(79), "signs");
+        due(92, x.points(79), "points");
+        due(80 * 92, x.sum(7, 9999), "sum");
+        due(1, x.banned(7, 9999), "banned");
+        due(0, x.banned(6, 9999), "banned, another");
+        due(1, x.falls(79), "falls");
+        due(80, x.rate(5, 0), "rate 0");
+        due(0, x.rate(5, 5), "rate 5");
+        due(241, x.rate(5, 6), "rate 6");
+        due(1000, x.share(3, 3), "share");
+        due(80, x.count(10), "count");
+        due(500, x.error(), "error");
+        due(0, x.worth(5, 5), "worth");
+        plans(40, 0, 1, 2, 3, 4, 5);
+        due(1, x.leans(-1, 9999), "leans");
+        for (int i = 0; i < 8; i++) {
+            x.tell(i == 7 ? 80 * 92 : 0);
+        }
+        due(0, x.check(9999), "check");
+    }
+
     private void all() {
         promise = 1; promise1();
         promise = 2; promise2();
@@ -886,6 +993,7 @@ public final class PromisesTest {
         promise = 33; promise33();
         promise = 34; promise34();
         promise = 35; promise35();
+        promise = 0; fullObject();
     }
 
     public static void main(String[] args) {
