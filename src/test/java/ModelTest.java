@@ -8,7 +8,6 @@ import java.util.TreeMap;
 /** Random runs of calls: the class must answer each as the plain model does. */
 public final class ModelTest {
     private static final int RUNS = 2000;
-    private static final int CALLS = 512;
     private static final String[] NAMES = {"vehicle", "as", "garage", "tester", "move", "at", "test", "of", "feed",
         "text", "says", "verdict", "unlike", "rate", "share", "signs", "alike", "falls", "rule", "appeal", "points",
         "sum", "banned", "secret", "visit", "worth", "plan", "draw", "error", "leans", "tell", "check", "count",
@@ -191,8 +190,8 @@ public final class ModelTest {
     private static boolean run(long seed, Map<String, Integer> tally) {
         ModelTest source = new ModelTest(seed);
         Model due = new Model();
-        TradeTests x = new TradeTests();
-        for (int i = 0; i < CALLS; i++) {
+        Asked x = new Asked();
+        for (int i = 0; i < Asked.MOST_CALLS; i++) {
             while (source.names.isEmpty()) {
                 source.next();
             }
@@ -200,7 +199,7 @@ public final class ModelTest {
             int[] a = source.arguments.poll();
             source.model.call(name, a);
             int want = due.call(name, a);
-            int got = Calls.call(x, name, a);
+            int got = x.call(name, a);
             tally(tally, name.equals("rate") ? name + " " + a[1] : name, want);
             if (got != want) {
                 System.out.println("seed " + seed + ", call " + i + ": " + name + Arrays.toString(a)

@@ -12,7 +12,7 @@ public final class PromisesTest {
     private static int wrong = 0;
     private static int promise = 0;
 
-    private TradeTests x = new TradeTests();
+    private Asked x = new Asked();
 
     private static void due(int want, int got, String what) {
         if (got != want) {
@@ -23,7 +23,7 @@ public final class PromisesTest {
 
     /** A new object with so many garages that never shut, and a tester at each. */
     private PromisesTest open(int garages) {
-        x = new TradeTests();
+        x = new Asked();
         for (int i = 0; i < garages; i++) {
             due(i, x.garage(0, 1440), "a garage for it");
             due(i, x.tester(i), "a tester for it");
@@ -57,14 +57,14 @@ public final class PromisesTest {
     }
 
     private void noTestIsBeyond(String name) {
-        due(BEYOND, Calls.call(x, name, x.count(3)), name + " of the test behind the last");
+        due(BEYOND, x.call(name, x.count(3)), name + " of the test behind the last");
         for (int test : NO_NUMBERS_OF_ANYTHING) {
-            due(BEYOND, Calls.call(x, name, test), name + " of test " + test);
+            due(BEYOND, x.call(name, test), name + " of test " + test);
         }
     }
 
     private void promise1() {
-        x = new TradeTests();
+        x = new Asked();
         for (int what = 0; what <= 10; what++) {
             due(0, x.count(what), "count " + what + " of a new object");
         }
@@ -75,14 +75,14 @@ public final class PromisesTest {
         due(0, x.plan(-1), "all worth of a new object");
         due(0, x.leans(-1, 0), "leaning vehicles of a new object");
         due(0, x.check(0), "check of nothing");
-        TradeTests other = new TradeTests();
+        Asked other = new Asked();
         x.vehicle(0, 0, 0);
         x.garage(0, 1);
         due(0, other.count(0) + other.count(1), "what another object was told");
     }
 
     private void promise2() {
-        x = new TradeTests();
+        x = new Asked();
         int[][] bad = {{-1, 0, 0}, {4, 0, 0}, {0, -1, 0}, {0, 4, 0}, {0, 0, -1}, {0, 0, 10000}};
         for (int i = 0; i < 24; i++) {
             due(i, x.vehicle(i % 4, i / 4 % 4, i == 0 ? 9999 : 0), "vehicle " + i);
@@ -108,7 +108,7 @@ public final class PromisesTest {
     }
 
     private void promise4() {
-        x = new TradeTests();
+        x = new Asked();
         int[][] bad = {{-1, 5}, {1440, 1441}, {1440, 1440}, {5, 5}, {5, 4}, {0, 1441}, {Integer.MAX_VALUE, Integer.MIN_VALUE}};
         for (int[] hours : bad) {
             due(BEYOND, x.garage(hours[0], hours[1]), "garage " + hours[0] + " " + hours[1]);
@@ -124,7 +124,7 @@ public final class PromisesTest {
     }
 
     private void promise5() {
-        x = new TradeTests();
+        x = new Asked();
         due(BEYOND, x.tester(0), "a tester at no garage");
         x.garage(0, 1);
         for (int i = 0; i < 8; i++) {
@@ -229,7 +229,7 @@ public final class PromisesTest {
     }
 
     private void promise10() {
-        x = new TradeTests();
+        x = new Asked();
         due(BEYOND, x.feed(-1), "byte -1");
         due(BEYOND, x.feed(256), "byte 256");
         for (int i = 1; i <= 60; i++) {
@@ -241,7 +241,7 @@ public final class PromisesTest {
     }
 
     private void promise11() {
-        x = new TradeTests();
+        x = new Asked();
         String[] bad = {"x", "b", "b;", "b1", "b12", "b123", "b1234;", "d", "d;", "d1", "d12", "d123;", "f", "f8v;",
             "f7", "f7b;", "f7v", "f7v,", "b1;d2;f3", "b1;;", "B1;", "b1;d2;f3r;v", "f/v;", "b:;", "b/;", "f0V;"};
         int[] place = {0, 1, 1, 2, 3, 4, 4, 1, 1, 2, 3, 3, 1, 1,
@@ -268,7 +268,7 @@ public final class PromisesTest {
     }
 
     private void promise12() {
-        x = new TradeTests();
+        x = new Asked();
         due(NONE, x.says(0, 0), "says without a text");
         text(10, "b7;d50;f0v;f1c;f2t;f3r;b300;d5;f1c;");
         int[] want = {0b0001, 0b0011, 0b0111, 0b1001};
@@ -513,7 +513,7 @@ public final class PromisesTest {
     }
 
     private void promise20() {
-        x = new TradeTests();
+        x = new Asked();
         int[] first = {365, 90, 20};
         int[] most = {3650, 1000, 200};
         for (int what = 0; what < 3; what++) {
@@ -543,7 +543,7 @@ public final class PromisesTest {
     }
 
     private void promise22() {
-        x = new TradeTests();
+        x = new Asked();
         vehicles(1, 1);
         x.garage(100, 200);
         x.tester(0);
@@ -623,7 +623,7 @@ public final class PromisesTest {
         x.rule(2, 2);
         x.rule(0, 1);
         due(1, x.banned(0, 110), "by the first test alone");
-        x = new TradeTests();
+        x = new Asked();
         vehicles(1).x.garage(100, 200);
         x.tester(0);
         x.tester(0);
@@ -640,7 +640,7 @@ public final class PromisesTest {
     }
 
     private void promise25() {
-        x = new TradeTests();
+        x = new Asked();
         for (int faults : new int[] {0, -1, 256, Integer.MAX_VALUE}) {
             due(BEYOND, x.secret(faults), "faults " + faults);
         }
@@ -827,7 +827,7 @@ public final class PromisesTest {
     }
 
     private void promise32() {
-        x = new TradeTests();
+        x = new Asked();
         for (int i = 1; i <= 8; i++) {
             due(i, x.tell(i % 2 == 0 ? Integer.MIN_VALUE : Integer.MAX_VALUE), "number " + i);
         }
@@ -926,8 +926,8 @@ public final class PromisesTest {
             x.move(7, i % 6, i);
         }
         for (int i = 0; i < 6; i++) {
-            text(0, "f0v;f1v;f2v;f3v;f4v;f5v;f6v;f7v;b99;d00;f0v;f1v;f2v;f3v;f4v");
-            due(i + 1, text(0, "f0v;f1v;f2v;f3v;f4v;f5v;f6v;f7v;b99;d00;f0v;f1v;f2v;f3v;f4v;"), "a full text");
+            String rows = i < 5 ? "b1;" : "f0v;f1v;f2v;f3v;f4v;f5v;f6v;f7v;b99;d00;f0v;f1v;f2v;f3v;f4v;";
+            due(i + 1, text(0, rows), "text " + i);
             x.secret(255);
         }
         for (int i = 0; i < 80; i++) {
