@@ -72,6 +72,32 @@ abstract class Edges {
         return x.text(day);
     }
 
+    /** A call that asks of one test: ahead of the first one, of none on both sides, and of one without anything strange. */
+    final void asksOfOneTest(String name, int want) {
+        garages(1);
+        vehicles(1);
+        due(BEYOND, x.call(name, 0), "ahead of the first test");
+        trial().on(x);
+        dueOfEach(BEYOND, new int[] {-1, 1, 80}, name, 0, 0);
+        dueOfEach(BEYOND, FAR, name, 0, 0);
+        due(want, x.call(name, 0), "the first test");
+        trial().day(9999).on(x);
+        due(BEYOND, x.call(name, 2), "behind the last test");
+        due(want, x.call(name, 1), "the last test");
+    }
+
+    /** A call that asks of a tester on a day: of no tester, on no day, and of testers without tests or moves. */
+    final void asksOfATesterOnADay(String name, int wantOfLast) {
+        due(BEYOND, x.call(name, 0, 0), "ahead of the first tester");
+        garages(2);
+        dueOfEach(BEYOND, new int[] {-1, 2, 8}, name, 0, 0, 0);
+        dueOfEach(BEYOND, FAR, name, 0, 0, 0);
+        dueOfEach(BEYOND, NO_DAYS, name, 1, 0, 0);
+        dueOfEach(BEYOND, FAR, name, 1, 0, 0);
+        due(0, x.call(name, 0, 0), "the first tester on the first day");
+        due(wantOfLast, x.call(name, 1, 9999), "the last tester on the last day");
+    }
+
     static Trial trial() {
         return new Trial();
     }

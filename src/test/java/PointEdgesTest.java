@@ -141,12 +141,7 @@ public final class PointEdgesTest extends Edges {
 
     @Says(promise = 22, value = "POINTS of a TEST. BEYOND.")
     void pointsBeyond() {
-        start();
-        due(BEYOND, x.points(0), "ahead of the first test");
-        quick(0, 0);
-        dueOfEach(BEYOND, new int[] {-1, 1, 80}, "points", 0, 0);
-        dueOfEach(BEYOND, FAR, "points", 0, 0);
-        due(2, x.points(0), "the first test");
+        asksOfOneTest("points", 0);
     }
 
     // ---- promise 23: sum
@@ -193,13 +188,7 @@ public final class PointEdgesTest extends Edges {
 
     @Says(promise = 23, value = "POINTS of a TESTER on a DAY. BEYOND.")
     void sumBeyond() {
-        due(BEYOND, x.sum(0, 0), "ahead of the first tester");
-        start();
-        dueOfEach(BEYOND, new int[] {-1, 2, 8}, "sum", 0, 0, 0);
-        dueOfEach(BEYOND, FAR, "sum", 0, 0, 0);
-        dueOfEach(BEYOND, NO_DAYS, "sum", 1, 0, 0);
-        dueOfEach(BEYOND, FAR, "sum", 1, 0, 0);
-        due(0, x.sum(1, 9999), "the last tester on the last day, without tests");
+        asksOfATesterOnADay("sum", 0);
     }
 
     // ---- promise 24: banned
@@ -247,6 +236,18 @@ public final class PointEdgesTest extends Edges {
         trial().day(107).minutes(1).on(x);
         due(200, x.sum(0, 107), "points");
         bans(106, 0, 107, 1);
+    }
+
+    @Says(promise = 24, value = "POINTS were LIMIT (1 .. 200; 20 at first) or more.")
+    void aSinglePointAtTheLeastLimit() {
+        x.garage(100, 200);
+        x.tester(0);
+        vehicles(1);
+        x.rule(LIMIT, 1);
+        x.rule(LAPSE, 1);
+        trial().day(100).on(x);
+        due(1, x.sum(0, 100), "points");
+        bans(99, 0, 100, 1, 101, 1, 189, 1, 190, 0);
     }
 
     @Says(promise = 24, value = "BANNED on a DAY: on some day up to it, not more than BAN (1 .. 1000; 90 at first) less 1 days ahead of it")
@@ -308,14 +309,7 @@ public final class PointEdgesTest extends Edges {
 
     @Says(promise = 24, value = "1 a TESTER is BANNED on a DAY, else 0. BEYOND.")
     void bannedBeyond() {
-        due(BEYOND, x.banned(0, 0), "ahead of the first tester");
-        start();
-        dueOfEach(BEYOND, new int[] {-1, 2, 8}, "banned", 0, 0, 0);
-        dueOfEach(BEYOND, FAR, "banned", 0, 0, 0);
-        dueOfEach(BEYOND, NO_DAYS, "banned", 1, 0, 0);
-        dueOfEach(BEYOND, FAR, "banned", 1, 0, 0);
-        due(0, x.banned(0, 0), "the first tester on the first day, without tests");
-        due(0, x.banned(1, 9999), "the last tester on the last day, without tests");
+        asksOfATesterOnADay("banned", 0);
     }
 
     public static void main(String[] args) throws ReflectiveOperationException {

@@ -341,6 +341,8 @@ public final class SecretEdgesTest extends Edges {
         error(340, 99, 1, 51, 0);
         error(659, 99, 0, 51, 1);
         error(29, 99, 1, 3, 0);
+        // 10000 by 73 is 136, and by 100 it is 100.
+        error(576, 73, 1, 100, 0);
         error(666, 7, 1, 7, 1, 7, 0);
     }
 
@@ -415,6 +417,7 @@ public final class SecretEdgesTest extends Edges {
             trial().vehicle(i).day(9999).faults(1).on(x);
         }
         due(24, x.leans(-1, 9999), "all 24");
+        due(1, x.leans(0, 9999), "the first one");
         due(0, x.leans(-1, 9998), "none the day ahead");
         due(1, x.leans(23, 9999), "the last one");
     }

@@ -54,13 +54,11 @@ public final class SentencesTest {
     }
 
     private static void printUnnamed(String document, BitSet named) {
-        for (int at = 0; at < document.length(); at = named.nextSetBit(at) < 0 ? document.length() : named.nextSetBit(at)) {
-            at = named.nextClearBit(at);
+        int at = named.nextClearBit(0);
+        while (at < document.length()) {
             int end = named.nextSetBit(at) < 0 ? document.length() : named.nextSetBit(at);
-            if (at < end) {
-                System.out.println("no test names: " + document.substring(at, end));
-            }
-            at = end;
+            System.out.println("no test names: " + document.substring(at, end));
+            at = named.nextClearBit(end);
         }
     }
 

@@ -84,6 +84,25 @@ public final class SignEdgesTest extends Edges {
         due(2, x.rate(1, 5), "two garages again, too few");
     }
 
+    @Says(promise = 15, value = "LOOKED: how many GARAGES have TESTS.")
+    void lookedByASingleTest() {
+        garages(3);
+        vehicles(1);
+        passes(1, 2);
+        fails(7, 1);
+        // A share of 125: the square 765625 is 109375 times (4 and 3), and garage 0 is not looked at.
+        rates(2, 1, 1, 125, 109375, 875, 1, 1);
+        fresh();
+        garages(3);
+        vehicles(1);
+        x.vehicle(1, 1, 0);
+        trial().vehicle(1).tester(0).on(x);
+        passes(1, 2);
+        fails(7, 1);
+        // Garage 0 is looked at now, by the first test of all.
+        rates(2, 1, 1, 125, 109375, 875, 0, 1);
+    }
+
     @Says(promise = 15, value = "EXPECTED of a GARAGE: SHARES of the CELLS of all its TESTS together. SPREAD: of all its TESTS SHARE times (1000 less SHARE), together. MORE: 1000 times its TESTS that PASSED, less EXPECTED.")
     void sharesAreCutAheadOfTheSum() {
         garages(2);
@@ -173,11 +192,15 @@ public final class SignEdgesTest extends Edges {
             x.vehicle(make, make, 0);
         }
         trial().vehicle(0).on(x);
+        trial().vehicle(3).on(x);
+        due(1000, x.share(0, 3), "make 3, by one test");
+        trial().vehicle(3).failed().on(x);
         trial().vehicle(3).failed().on(x);
         due(1000, x.share(0, 0), "make 0");
         due(NONE, x.share(0, 1), "make 1");
         due(NONE, x.share(0, 2), "make 2");
-        due(0, x.share(0, 3), "make 3");
+        due(333, x.share(0, 3), "make 3");
+        due(333, x.share(0, 3), "make 3, asked again");
     }
 
     @Says(promise = 16, value = "SHARE of a CELL: 1000 times those that PASSED, by how many TESTS.")
@@ -375,13 +398,7 @@ public final class SignEdgesTest extends Edges {
 
     @Says(promise = 17, value = "SIGNS of a TEST. BEYOND.")
     void signsBeyond() {
-        garages(1);
-        vehicles(1);
-        due(BEYOND, x.signs(0), "ahead of the first test");
-        trial().on(x);
-        dueOfEach(BEYOND, new int[] {-1, 1, 80}, "signs", 0, 0);
-        dueOfEach(BEYOND, FAR, "signs", 0, 0);
-        due(0, x.signs(0), "the first test");
+        asksOfOneTest("signs", 0);
     }
 
     // ---- promise 18: alike
@@ -439,13 +456,7 @@ public final class SignEdgesTest extends Edges {
 
     @Says(promise = 18, value = "ALIKE. BEYOND.")
     void alikeBeyond() {
-        garages(1);
-        vehicles(1);
-        due(BEYOND, x.alike(0), "ahead of the first test");
-        trial().on(x);
-        dueOfEach(BEYOND, new int[] {-1, 1, 80}, "alike", 0, 0);
-        dueOfEach(BEYOND, FAR, "alike", 0, 0);
-        due(0, x.alike(0), "the first test");
+        asksOfOneTest("alike", 0);
     }
 
     // ---- promise 19: falls

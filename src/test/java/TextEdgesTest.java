@@ -160,6 +160,21 @@ public final class TextEdgesTest extends Edges {
     }
 
     @Says(promise = 11, value = "At most 6 TEXTS")
+    void theSixthTextHasAllItsRows() {
+        for (int i = 1; i <= 6; i++) {
+            due(i, text(i, "f0v;f1c;f2t;f3r;b" + i + ";d" + i + ";"), "text " + i);
+        }
+        for (int day : new int[] {1, 6}) {
+            due(day, x.says(day, 0), "the least brake on day " + day);
+            due(day, x.says(day, 1), "the hundredths on day " + day);
+            due(0b0001, x.says(day, 10), "kind 0 on day " + day);
+            due(0b0011, x.says(day, 11), "kind 1 on day " + day);
+            due(0b0111, x.says(day, 12), "kind 2 on day " + day);
+            due(0b1001, x.says(day, 13), "kind 3 on day " + day);
+        }
+    }
+
+    @Says(promise = 11, value = "At most 6 TEXTS")
     void faultyOnesAreNotAmongTheSix() {
         for (int i = 1; i <= 6; i++) {
             faultAt(1, "bx");
@@ -180,13 +195,16 @@ public final class TextEdgesTest extends Edges {
     @Says(promise = 11, value = "-10 less its FAULT (none comes)")
     void theTapeIsEmptyBehindAFaultToo() {
         due(1, text(0, "b5;f1v;"), "a text");
-        due(-13, text(0, "b6;x"), "a fault behind a good row");
+        due(-29, text(0, "b6;f2v;f3r;f4c;f5t;x"), "a fault behind good rows");
         due(0, x.count(8), "bytes");
         due(1, x.count(4), "texts");
         due(5, x.says(0, 0), "the text ahead is in force");
         due(2, x.says(0, 10), "with all of its rows");
         due(2, text(0, "d7;"), "the next text");
         due(0, x.says(0, 0), "nothing is left of the faulty one");
+        for (int kind = 0; kind < 4; kind++) {
+            due(0, x.says(0, 10 + kind), "nor of its faults, kind " + kind);
+        }
         due(0, x.found(1) + x.found(2) + x.found(3) + x.found(4) + x.found(5), "a fault is no finding");
     }
 
@@ -409,13 +427,7 @@ public final class TextEdgesTest extends Edges {
 
     @Says(promise = 13, value = "VERDICT: 1 PASS, 0 not. BEYOND.")
     void verdictBeyond() {
-        garages(1);
-        vehicles(1);
-        due(BEYOND, x.verdict(0), "ahead of the first test");
-        trial().on(x);
-        dueOfEach(BEYOND, new int[] {-1, 1, 80}, "verdict", 0, 0);
-        dueOfEach(BEYOND, FAR, "verdict", 0, 0);
-        due(1, x.verdict(0), "the first test");
+        asksOfOneTest("verdict", 1);
     }
 
     // ---- promise 14: unlike
@@ -441,13 +453,7 @@ public final class TextEdgesTest extends Edges {
 
     @Says(promise = 14, value = "UNLIKE. BEYOND.")
     void unlikeBeyond() {
-        garages(1);
-        vehicles(1);
-        due(BEYOND, x.unlike(0), "ahead of the first test");
-        trial().on(x);
-        dueOfEach(BEYOND, new int[] {-1, 1, 80}, "unlike", 0, 0);
-        dueOfEach(BEYOND, FAR, "unlike", 0, 0);
-        due(0, x.unlike(0), "the first test");
+        asksOfOneTest("unlike", 0);
     }
 
     public static void main(String[] args) throws ReflectiveOperationException {

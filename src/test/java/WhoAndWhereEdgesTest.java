@@ -337,13 +337,7 @@ public final class WhoAndWhereEdgesTest extends Edges {
 
     @Says(promise = 7, value = "AT which GARAGE a TESTER is. BEYOND.")
     void atBeyond() {
-        due(BEYOND, x.at(0, 0), "ahead of the first tester");
-        garages(2);
-        dueOfEach(BEYOND, new int[] {-1, 2, 8}, "at", 0, 0, 0);
-        dueOfEach(BEYOND, FAR, "at", 0, 0, 0);
-        dueOfEach(BEYOND, NO_DAYS, "at", 1, 0, 0);
-        dueOfEach(BEYOND, FAR, "at", 1, 0, 0);
-        due(1, x.at(1, 9999), "the last tester on the last day");
+        asksOfATesterOnADay("at", 1);
     }
 
     // ---- promise 8: test
