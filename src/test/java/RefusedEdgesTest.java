@@ -59,7 +59,7 @@ public final class RefusedEdgesTest extends Edges {
         return world.feed("b12").add("tell", 0).add("tell", 0);
     }
 
-    /** As many of all as there may be; room on the tape makes its bytes be read. */
+    /** As many of all as there may be; no test is on day 0, so that the numbers that wait are right on it. */
     private static World full() {
         World world = new World("all is full");
         for (int i = 0; i < 24; i++) {
@@ -76,7 +76,7 @@ public final class RefusedEdgesTest extends Edges {
             world.add("move", i % 8, i % 6, 40 + i);
         }
         for (int i = 0; i < 80; i++) {
-            world.add("test", 100 * (i % 20) + i % 8, 90000 * i + i, 1000 * (5 + i % 30) + 5 * i, 0, 1001 * (i % 9));
+            world.add("test", 100 * (i % 20) + i % 8, 90000 * i + 1 + i, 1000 * (5 + i % 30) + 5 * i, 0, 1001 * (i % 9));
         }
         for (int i = 0; i < 6; i++) {
             world.add("visit", i, 7 * i).add("draw", 8 * i, 1 + i, i % 2);
@@ -150,14 +150,17 @@ public final class RefusedEdgesTest extends Edges {
 
     /** Acts whose answers tell what no question does: the tape, what waits, the latest days, the rules. */
     private static List<List<Call>> acts(World world) {
-        World tape = new World("tape").add("feed", ';').add("text", 0);
+        World tape = new World("tape").add("text", 0);
+        World longerTape = new World("longer tape").add("feed", ';').add("text", 0);
         for (int what : new int[] {0, 1, 10, 11, 12, 13}) {
             tape.add("says", 0, what);
+            longerTape.add("says", 0, what);
         }
-        World waiting = new World("waiting").add("tell", 0).add("check", 0).add("tell", 0).add("check", 0);
+        World waiting = new World("waiting").add("check", 0).add("tell", 0).add("check", 0);
+        World moreWaiting = new World("more waiting").add("tell", 0).add("check", 0);
         World rules = new World("rules").add("rule", 0, 1).add("rule", 1, 1).add("rule", 2, 1);
         World numbers = new World("numbers").add("vehicle", 1, 1, 1).add("garage", 1, 2).add("tester", 0)
-            .add("secret", 1).add("test", 0, 60, 20256, 9, 9).add("test", 0, 79, 20256, 9, 9).add("of", 5, 5);
+            .add("secret", 1).add("test", 0, 60, 20256, 9, 9).add("test", 0, 80, 20256, 9, 9).add("of", 5, 5);
         World moves = new World("moves");
         for (int tester = 0; tester < world.size(2); tester++) {
             moves.add("move", tester, 0, 49).add("move", tester, 0, 60).add("at", tester, 60);
@@ -171,7 +174,8 @@ public final class RefusedEdgesTest extends Edges {
             draws.add("draw", test, 1, 0);
         }
         draws.add("error");
-        return List.of(tape.calls, waiting.calls, rules.calls, numbers.calls, moves.calls, marks.calls, draws.calls);
+        return List.of(tape.calls, longerTape.calls, waiting.calls, moreWaiting.calls, rules.calls, numbers.calls,
+            moves.calls, marks.calls, draws.calls);
     }
 
     /** What is asked, in parts for which an object of that world has calls left. */
@@ -232,9 +236,9 @@ public final class RefusedEdgesTest extends Edges {
         bad(list, "tester", new int[] {0}, new int[] {-1, 6});
         bad(list, "move", new int[] {0, 1, 70}, new int[] {-1, 8}, new int[] {-1, 6}, new int[] {-1, 10000, 39});
         bad(list, "at", new int[] {0, 0}, new int[] {-1, 8}, NO_DAYS);
-        bad(list, "test", new int[] {0, 79, 30256, 1, 1}, new int[] {-1, 8, 2400}, new int[] {-1, 59, 14400079},
+        bad(list, "test", new int[] {0, 80, 30256, 1, 1}, new int[] {-1, 8, 2400}, new int[] {-1, 59, 14400080},
             new int[] {-1, 256, 241000, 30512}, new int[] {-1, 1000000}, new int[] {-1, 1000000});
-        list.add("test", 300, 79, 30256, 1, 1);
+        list.add("test", 300, 80, 30256, 1, 1);
         bad(list, "of", new int[] {0, 0}, new int[] {-1, 80}, new int[] {-1, 11});
         bad(list, "feed", new int[] {0}, new int[] {-1, 256});
         bad(list, "text", new int[] {0}, NO_DAYS);

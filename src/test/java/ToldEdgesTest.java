@@ -17,6 +17,17 @@ public final class ToldEdgesTest extends Edges {
     }
 
     @Says(promise = 32, value = "One more number waits: how many. FULL: 8 wait.")
+    void aRefusedNumberTakesNoPlace() {
+        x.garage(0, 1440);
+        for (int i = 0; i < 8; i++) {
+            x.tester(0);
+            x.tell(0);
+        }
+        due(FULL, x.tell(5), "number 8");
+        due(0, x.check(0), "the eight that wait are as they were told");
+    }
+
+    @Says(promise = 32, value = "One more number waits: how many. FULL: 8 wait.")
     void numbersWaitAnewBehindACheck() {
         for (int round = 0; round < 3; round++) {
             for (int i = 0; i < 8; i++) {
